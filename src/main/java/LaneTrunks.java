@@ -45,7 +45,7 @@ public final class LaneTrunks {
     private final int[] reachedPlaces = new int[PLACES];
     private int reachedCount;
 
-    // Room for leastSums: by slot and by switch.
+    // Room for leastSums, by slot and by switch: filled anew before each use.
     private final int[] weights = new int[SLOTS];
     private final int[] sums = new int[UNITS];
 
@@ -346,11 +346,9 @@ public final class LaneTrunks {
                 || at(wayUpSlot, end / PORTS_OF_UNIT) == end;
     }
 
+    // For a port with a cable, be it on or off.
     private int laneBeyond(int slot, int lane) {
         int end = at(farSlot, slot);
-        if (end == NONE) {
-            return NONE;
-        }
         if (isTagged(slot, lane)) {
             return isTagged(end, lane) ? lane : NONE;
         }

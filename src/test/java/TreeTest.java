@@ -10,6 +10,8 @@ public final class TreeTest {
         test.aLongWayIsTheCheapest();
         test.severalWaysUp();
         test.lanesDoNotMatter();
+        test.questionsLeaveTheTree();
+        test.portsOfOtherSwitches();
         test.wholeChains();
         test.badArgumentsAreRefused();
         test.checks.close();
@@ -81,6 +83,30 @@ public final class TreeTest {
         x.untag(0, 0, 1);
         x.tag(1, 0, 2, true);
         tree(x, 1, 0, 5, 0);
+    }
+
+    private void questionsLeaveTheTree() {
+        LaneTrunks x = new LaneTrunks();
+        x.cable(1, 0, 2, 0, 3);
+        x.untag(1, 5, 1);
+        x.untag(2, 5, 1);
+        checks.due("changes before a cable", 2, () -> x.changes(1, 5, 2, 5));
+        x.cable(2, 1, 3, 0, 3);
+        tree(x, 2, 1, 3, 0);
+        tree(x, 3, 1, 6, 0);
+        x.cable(0, 0, 3, 1, 1);
+        tree(x, 1, 0, 7, 0);
+    }
+
+    // The port 0 of switch 2 would be a way up of switch 1 too, if it were a port of switch 1.
+    private void portsOfOtherSwitches() {
+        LaneTrunks x = new LaneTrunks();
+        x.cable(1, 0, 3, 0, 2);
+        x.cable(3, 1, 0, 1, 3);
+        x.cable(2, 0, 0, 0, 5);
+        tree(x, 1, 0, 5, 0);
+        tree(x, 2, 0, 5, 0);
+        tree(x, 3, 0, 3, 1);
     }
 
     private void wholeChains() {
