@@ -101,10 +101,10 @@ public final class TreeTest {
     // The port 0 of switch 2 would be a way up of switch 1 too, if it were a port of switch 1.
     private void portsOfOtherSwitches() {
         LaneTrunks x = new LaneTrunks();
-        x.cable(1, 0, 3, 0, 2);
+        x.cable(1, 1, 3, 0, 2);
         x.cable(3, 1, 0, 1, 3);
         x.cable(2, 0, 0, 0, 5);
-        tree(x, 1, 0, 5, 0);
+        tree(x, 1, 0, 5, 1);
         tree(x, 2, 0, 5, 0);
         tree(x, 3, 0, 3, 1);
     }
