@@ -1,21 +1,26 @@
+import java.util.function.Consumer;
+
 /** Promises 8 to 12: what is at the far end of cables, and how frames come over them. */
 public final class CablesTest {
     private static final int NONE = LaneTrunks.NONE;
-    private static final int[] BAD_UNITS = {-1, 6, 36, Integer.MIN_VALUE, Integer.MAX_VALUE};
 
     private final Checks checks = new Checks("CablesTest");
 
     public static void main(String[] args) {
         CablesTest test = new CablesTest();
         test.farTellsTheEnd();
+        test.farFromAllPorts();
         test.isOnFollowsTheTree();
         test.ofSeveralCablesOneIsOn();
+        test.eachWayUpIsOn();
         test.comesAsWithTags();
         test.comesAsWithoutTags();
-        test.comesAsBeTheCableOff();
+        test.comesAsInEachLane();
+        test.cablesThatAreOff();
         test.oneSidedCountsTags();
+        test.oneSidedAtItsEnds();
         test.wrongComparesTheBook();
-        test.badArgumentsAreRefused();
+        test.wrongAtAllPorts();
         test.missingCablesAreRefused();
         test.checks.close();
     }
@@ -32,6 +37,22 @@ public final class CablesTest {
         x.tree(true);
         x.pull(0, 0);
         checks.due("far after pull", NONE, () -> x.far(5, 5));
+    }
+
+    private void farFromAllPorts() {
+        LaneTrunks x = new LaneTrunks();
+        for (int port = 0; port < 6; port++) {
+            x.cable(0, port, 5, 5 - port, 1);
+            x.cable(1, port, 4, (port + 1) % 6, 1);
+        }
+        for (int port = 0; port < 6; port++) {
+            int p = port;
+            checks.due("far(0, " + p + ")", 55 - p, () -> x.far(0, p));
+            checks.due("far(5, " + p + ")", 5 - p, () -> x.far(5, p));
+            checks.due("far(1, " + p + ")", 40 + (p + 1) % 6, () -> x.far(1, p));
+            checks.due("far(4, " + p + ")", 10 + (p + 5) % 6, () -> x.far(4, p));
+            checks.due("far(2, " + p + ")", NONE, () -> x.far(2, p));
+        }
     }
 
     private void isOnFollowsTheTree() {
@@ -68,6 +89,30 @@ public final class CablesTest {
         checks.due("no more the dearer one", false, () -> x.isOn(4, 4));
     }
 
+    private void eachWayUpIsOn() {
+        LaneTrunks x = new LaneTrunks();
+        int[] order = {3, 0, 5, 1, 4, 2};
+        for (int i = 0; i < 5; i++) {
+            x.cable(order[i], 0, order[i + 1], 5, 20 - i);
+        }
+        x.cable(3, 1, 2, 1, 20);
+        for (boolean isTreeOn : new boolean[] {true, false}) {
+            x.tree(isTreeOn);
+            for (int i = 0; i < 5; i++) {
+                int unit = order[i];
+                int next = order[i + 1];
+                // Switch 2 comes to switch 0 at cost 40 over switch 3, switch 4 at 54 along the
+                // chain: each has a better way up than the last cable of the chain.
+                boolean want = !isTreeOn || i != 4;
+                checks.due("isOn(" + unit + ", 0)", want, () -> x.isOn(unit, 0));
+                checks.due("isOn(" + next + ", 5)", want, () -> x.isOn(next, 5));
+            }
+            checks.due("isOn(3, 1)", true, () -> x.isOn(3, 1));
+            checks.due("isOn at a port without a cable", Checks.NO_SUCH_ELEMENT,
+                    () -> x.isOn(3, 5));
+        }
+    }
+
     private void comesAsWithTags() {
         LaneTrunks x = new LaneTrunks();
         x.cable(0, 0, 1, 0, 1);
@@ -101,7 +146,31 @@ public final class CablesTest {
         checks.due("the same untagged there", 1, () -> x.comesAs(0, 0, 1));
     }
 
-    private void comesAsBeTheCableOff() {
+    private void comesAsInEachLane() {
+        LaneTrunks x = new LaneTrunks();
+        x.cable(0, 5, 5, 0, 1);
+        for (int lane = 1; lane <= 15; lane++) {
+            int l = lane;
+            checks.due("no lane yet, " + l, NONE, () -> x.comesAs(0, 5, l));
+            x.tag(0, 5, l, true);
+            x.tag(5, 0, l, true);
+            checks.due("tagged at both ends, " + l, l, () -> x.comesAs(0, 5, l));
+            x.tag(0, 5, l, false);
+            checks.due("tagged there alone, " + l, NONE, () -> x.comesAs(0, 5, l));
+            checks.due("tagged here alone, " + l, NONE, () -> x.comesAs(5, 0, l));
+            x.untag(0, 5, l);
+            checks.due("none untagged there, " + l, NONE, () -> x.comesAs(0, 5, l));
+            x.tag(5, 0, l, false);
+            x.untag(5, 0, 16 - l);
+            checks.due("untagged at both ends, " + l, 16 - l, () -> x.comesAs(0, 5, l));
+            checks.due("untagged, from there, " + l, l, () -> x.comesAs(5, 0, 16 - l));
+            x.untag(0, 5, 0);
+            checks.due("untagged there alone, " + l, NONE, () -> x.comesAs(5, 0, 16 - l));
+            x.untag(5, 0, 0);
+        }
+    }
+
+    private void cablesThatAreOff() {
         LaneTrunks x = new LaneTrunks();
         x.cable(0, 0, 1, 0, 1);
         x.cable(0, 1, 1, 1, 2);
@@ -110,6 +179,9 @@ public final class CablesTest {
         x.untag(1, 1, 4);
         checks.due("the cable is off", false, () -> x.isOn(0, 1));
         checks.due("over a cable that is off", 4, () -> x.comesAs(0, 1, 3));
+        checks.due("over a cable that is off, from there", 3, () -> x.comesAs(1, 1, 4));
+        checks.due("the far end of a cable that is off", 11, () -> x.far(0, 1));
+        checks.due("the cost of a cable that is off", 2, () -> x.pull(0, 1));
     }
 
     private void oneSidedCountsTags() {
@@ -132,6 +204,27 @@ public final class CablesTest {
             x.tag(1, 0, lane, false);
         }
         checks.due("all at one end", 15, () -> x.oneSided(1, 0));
+    }
+
+    private void oneSidedAtItsEnds() {
+        LaneTrunks x = new LaneTrunks();
+        x.cable(0, 0, 1, 0, 1);
+        x.cable(5, 5, 4, 4, 1);
+        x.cable(5, 4, 4, 5, 2);
+        x.tree(true);
+        for (int lane = 1; lane <= 15; lane++) {
+            int l = lane;
+            x.tag(5, 4, l, true);
+            checks.due("lanes 1 to " + l + " at one end", l, () -> x.oneSided(5, 4));
+            checks.due("lanes 1 to " + l + " at one end, from there", l, () -> x.oneSided(4, 5));
+        }
+        checks.due("that cable is off", false, () -> x.isOn(5, 4));
+        for (int lane = 1; lane <= 15; lane++) {
+            int l = lane;
+            x.tag(4, 5, l, true);
+            checks.due("lanes 1 to " + l + " at both ends", 15 - l, () -> x.oneSided(5, 4));
+        }
+        checks.due("other cables", 0, () -> x.oneSided(0, 0));
     }
 
     private void wrongComparesTheBook() {
@@ -159,35 +252,47 @@ public final class CablesTest {
         x.cable(2, 0, 3, 0, 9);
         x.note(2, 0, 3, 0);
         checks.due("as written, over a cable that is off", 3, x::wrong);
+        x.note(2, 0, 3, 3);
+        checks.due("another one, over a cable that is off", 4, x::wrong);
     }
 
-    private void badArgumentsAreRefused() {
-        for (int bad : BAD_UNITS) {
-            refused("far(" + bad + ", 0)", x -> x.far(bad, 0));
-            refused("far(0, " + bad + ")", x -> x.far(0, bad));
-            refused("isOn(" + bad + ", 0)", x -> x.isOn(bad, 0));
-            refused("isOn(0, " + bad + ")", x -> x.isOn(0, bad));
-            refused("comesAs(" + bad + ", 0, 1)", x -> x.comesAs(bad, 0, 1));
-            refused("comesAs(0, " + bad + ", 1)", x -> x.comesAs(0, bad, 1));
-            refused("oneSided(" + bad + ", 0)", x -> x.oneSided(bad, 0));
-            refused("oneSided(0, " + bad + ")", x -> x.oneSided(0, bad));
+    private void wrongAtAllPorts() {
+        LaneTrunks x = new LaneTrunks();
+        for (int slot = 0; slot < 36; slot++) {
+            int before = slot;
+            checks.due("wrong, " + slot + " ports noted", before, x::wrong);
+            x.note(slot / 6, slot % 6, 5 - slot / 6, slot % 6);
         }
-        for (int bad : new int[] {0, -1, 16, 32, Integer.MIN_VALUE, Integer.MAX_VALUE}) {
-            refused("comesAs(0, 0, " + bad + ")", x -> x.comesAs(0, 0, bad));
-            refused("comesAs(3, 3, " + bad + "), no cable", x -> x.comesAs(3, 3, bad));
+        checks.due("wrong at all ports", 36, x::wrong);
+        for (int slot = 0; slot < 18; slot++) {
+            int left = 34 - 2 * slot;
+            x.cable(slot / 6, slot % 6, 5 - slot / 6, slot % 6, 3);
+            checks.due("wrong, a cable as noted", left, x::wrong);
+        }
+        x.tree(true);
+        checks.due("wrong, most cables off", 0, x::wrong);
+        for (int slot = 0; slot < 18; slot++) {
+            int again = 2 + 2 * slot;
+            x.pull(slot / 6, slot % 6);
+            checks.due("wrong, a cable pulled", again, x::wrong);
         }
     }
 
     private void missingCablesAreRefused() {
-        checks.refused("isOn(3, 3)", Checks.NO_SUCH_ELEMENT,
-                SettingsTest::someSettings, x -> x.isOn(3, 3));
-        checks.refused("comesAs(5, 5, 15)", Checks.NO_SUCH_ELEMENT,
-                SettingsTest::someSettings, x -> x.comesAs(5, 5, 15));
-        checks.refused("oneSided(5, 5)", Checks.NO_SUCH_ELEMENT,
-                SettingsTest::someSettings, x -> x.oneSided(5, 5));
+        missingCable("isOn(3, 3)", x -> x.isOn(3, 3));
+        missingCable("isOn(0, 1)", x -> x.isOn(0, 1));
+        missingCable("comesAs(5, 5, 15)", x -> x.comesAs(5, 5, 15));
+        missingCable("comesAs(0, 1, 1), not carried", x -> x.comesAs(0, 1, 1));
+        missingCable("oneSided(5, 5)", x -> x.oneSided(5, 5));
+        missingCable("oneSided(0, 1), nothing tagged", x -> x.oneSided(0, 1));
     }
 
-    private void refused(String what, java.util.function.Consumer<LaneTrunks> call) {
-        checks.refused(what, Checks.ILLEGAL_ARGUMENT, SettingsTest::someSettings, call);
+    private void missingCable(String what, Consumer<LaneTrunks> call) {
+        checks.refused(what, Checks.NO_SUCH_ELEMENT, SettingsTest::someSettings, call);
+        checks.refused(what + ", nothing laid", Checks.NO_SUCH_ELEMENT, x -> { }, call);
+        checks.refused(what + ", tree off", Checks.NO_SUCH_ELEMENT, x -> {
+            SettingsTest.someSettings(x);
+            x.tree(false);
+        }, call);
     }
 }

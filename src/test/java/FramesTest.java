@@ -1,8 +1,6 @@
 /** Promises 16 to 21: where frames come, islands, loops and changes. */
 public final class FramesTest {
     private static final int NONE = LaneTrunks.NONE;
-    private static final int[] BAD_UNITS = {-1, 6, 36, Integer.MIN_VALUE, Integer.MAX_VALUE};
-    private static final int[] BAD_LANES = {0, -1, 16, Integer.MIN_VALUE, Integer.MAX_VALUE};
 
     private final Checks checks = new Checks("FramesTest");
 
@@ -19,8 +17,13 @@ public final class FramesTest {
         test.changesPutTags();
         test.changesStayInTheLane();
         test.changesKeepTheTree();
-        test.badPlacesAreRefused();
-        test.badPortsAreRefused();
+        test.changesNeedTheSameLane();
+        test.nothingIsSet();
+        test.hopsOverManyLanes();
+        test.allPlacesInOneIsland();
+        test.manyLoops();
+        test.bothEndsMustCarry();
+        test.eachPlaceIsUsedByItsPorts();
         test.checks.close();
     }
 
@@ -271,34 +274,199 @@ public final class FramesTest {
         checks.due("the longest way back", 10, () -> long5.changes(5, 5, 0, 5));
     }
 
-    private void badPlacesAreRefused() {
-        for (int bad : BAD_UNITS) {
-            refused("hops(" + bad + ", 1, 0, 1)", x -> x.hops(bad, 1, 0, 1));
-            refused("hops(0, 1, " + bad + ", 1)", x -> x.hops(0, 1, bad, 1));
-            refused("hops(" + bad + ", 1, " + bad + ", 1)", x -> x.hops(bad, 1, bad, 1));
-            refused("joined(" + bad + ", 1)", x -> x.joined(bad, 1));
+    private void changesNeedTheSameLane() {
+        LaneTrunks x = chain(4);
+        checks.due("none untagged, with cables", NONE, () -> x.changes(0, 5, 5, 5));
+        checks.due("none untagged, at one switch", NONE, () -> x.changes(0, 5, 0, 4));
+        x.untag(0, 5, 4);
+        checks.due("none there", NONE, () -> x.changes(0, 5, 5, 5));
+        checks.due("none here", NONE, () -> x.changes(5, 5, 0, 5));
+        checks.due("none there, at one switch", NONE, () -> x.changes(0, 5, 0, 4));
+        x.untag(0, 4, 5);
+        checks.due("two lanes at one switch", NONE, () -> x.changes(0, 4, 0, 5));
+        x.untag(5, 5, 4);
+        checks.due("all tags are there", 0, () -> x.changes(0, 5, 5, 5));
+        checks.due("two lanes", NONE, () -> x.changes(0, 4, 5, 5));
+        x.tag(2, 0, 4, false);
+        checks.due("one tag is missing", 1, () -> x.changes(0, 5, 5, 5));
+        x.pull(2, 0);
+        checks.due("one cable is missing", NONE, () -> x.changes(0, 5, 5, 5));
+        checks.due("before the missing cable", 0, () -> x.changes(0, 5, 0, 5));
+    }
+
+    private void nothingIsSet() {
+        LaneTrunks x = new LaneTrunks();
+        for (int unit = 0; unit < 6; unit++) {
+            int u = unit;
+            int v = (unit + 1) % 6;
+            checks.due("new: hops to the same", 0, () -> x.hops(u, 15, u, 15));
+            checks.due("new: hops to another lane", NONE, () -> x.hops(u, 15, u, 14));
+            checks.due("new: hops to another switch", NONE, () -> x.hops(u, 1, v, 1));
+            checks.due("new: joined", 1, () -> x.joined(u, 15));
+            checks.due("new: meet itself", false, () -> x.meet(u, 0, u, 0));
+            checks.due("new: meet", false, () -> x.meet(u, 0, v, 0));
+            checks.due("new: changes to itself", NONE, () -> x.changes(u, 0, u, 0));
+            checks.due("new: changes", NONE, () -> x.changes(u, 0, v, 0));
         }
-        for (int bad : BAD_LANES) {
-            refused("hops(0, " + bad + ", 0, 1)", x -> x.hops(0, bad, 0, 1));
-            refused("hops(0, 1, 0, " + bad + ")", x -> x.hops(0, 1, 0, bad));
-            refused("joined(0, " + bad + ")", x -> x.joined(0, bad));
+        x.cable(0, 0, 1, 0, 1);
+        checks.due("a cable alone: islands", 0, x::islands);
+        checks.due("a cable alone: loops", 0, x::loops);
+        checks.due("a cable alone: hops", NONE, () -> x.hops(0, 1, 1, 1));
+        checks.due("a cable alone: joined", 1, () -> x.joined(1, 15));
+    }
+
+    private static void tagChain(LaneTrunks x, int lanes) {
+        for (int unit = 0; unit < 5; unit++) {
+            x.cable(unit, 0, unit + 1, 1, 1);
+            for (int lane = 1; lane <= lanes; lane++) {
+                tagBoth(x, unit, 0, lane);
+            }
         }
     }
 
-    private void badPortsAreRefused() {
-        for (int bad : BAD_UNITS) {
-            refused("meet(" + bad + ", 0, 0, 0)", x -> x.meet(bad, 0, 0, 0));
-            refused("meet(0, " + bad + ", 0, 0)", x -> x.meet(0, bad, 0, 0));
-            refused("meet(0, 0, " + bad + ", 0)", x -> x.meet(0, 0, bad, 0));
-            refused("meet(5, 4, 0, " + bad + ")", x -> x.meet(5, 4, 0, bad));
-            refused("changes(" + bad + ", 0, 0, 0)", x -> x.changes(bad, 0, 0, 0));
-            refused("changes(0, " + bad + ", 0, 0)", x -> x.changes(0, bad, 0, 0));
-            refused("changes(0, 0, " + bad + ", 0)", x -> x.changes(0, 0, bad, 0));
-            refused("changes(5, 4, 0, " + bad + ")", x -> x.changes(5, 4, 0, bad));
+    private static int freePort(LaneTrunks x, int unit) {
+        int port = 0;
+        while (x.far(unit, port) != NONE) {
+            port++;
         }
+        return port;
     }
 
-    private void refused(String what, java.util.function.Consumer<LaneTrunks> call) {
-        checks.refused(what, Checks.ILLEGAL_ARGUMENT, SettingsTest::someSettings, call);
+    private static void turn(LaneTrunks x, int unit, int lane, int otherUnit, int otherLane) {
+        int port = freePort(x, unit);
+        int otherPort = freePort(x, otherUnit);
+        x.cable(unit, port, otherUnit, otherPort, 2);
+        x.untag(unit, port, lane);
+        x.untag(otherUnit, otherPort, otherLane);
+    }
+
+    // Nine lanes along the chain, from each to the next over a cable at the far end of the chain.
+    private void hopsOverManyLanes() {
+        LaneTrunks x = new LaneTrunks();
+        tagChain(x, 9);
+        for (int lane = 1; lane < 9; lane++) {
+            boolean isUp = lane % 2 == 1;
+            turn(x, isUp ? 5 : 0, lane, isUp ? 4 : 1, lane + 1);
+        }
+        for (int lane = 1; lane <= 9; lane++) {
+            int l = lane;
+            int end = lane % 2 == 1 ? 5 : 0;
+            checks.due("hops to the end of lane " + l, 5 * l, () -> x.hops(0, 1, end, l));
+            checks.due("hops back from there", 5 * l, () -> x.hops(end, l, 0, 1));
+        }
+        checks.due("hops to the last turn", 41, () -> x.hops(0, 1, 1, 9));
+        checks.due("hops behind the last turn", 42, () -> x.hops(0, 1, 0, 9));
+        checks.due("hops into a lane without a turn", NONE, () -> x.hops(0, 1, 5, 10));
+        checks.due("joined, all nine lanes", 54, () -> x.joined(3, 5));
+        checks.due("one island", 1, x::islands);
+        x.tree(true);
+        checks.due("hops with the turns off", NONE, () -> x.hops(0, 1, 4, 2));
+    }
+
+    // 18 cables at all 36 ports: 89 ways join all 90 places, and no way is one too many.
+    private static LaneTrunks allPlaces() {
+        LaneTrunks x = new LaneTrunks();
+        tagChain(x, 15);
+        x.tag(4, 0, 14, false);
+        x.tag(4, 0, 15, false);
+        x.untag(4, 0, 14);
+        x.tag(5, 1, 14, false);
+        x.tag(5, 1, 15, false);
+        x.untag(5, 1, 15);
+        int port = freePort(x, 4);
+        turn(x, 4, 1, 5, 2);
+        tagBoth(x, 4, port, 14);
+        tagBoth(x, 4, port, 15);
+        int[] from = {0, 0, 0, 0, 0, 1, 1, 1, 2, 3, 3, 3};
+        int[] to = {5, 5, 5, 5, 1, 2, 2, 2, 3, 4, 4, 4};
+        for (int i = 0; i < from.length; i++) {
+            turn(x, from[i], 2 + i, to[i], 3 + i);
+        }
+        return x;
+    }
+
+    private void allPlacesInOneIsland() {
+        LaneTrunks x = allPlaces();
+        for (int unit = 0; unit < 6; unit++) {
+            int u = unit;
+            checks.due("joined, all places, lane 1", 90, () -> x.joined(u, 1));
+            checks.due("joined, all places, lane 8", 90, () -> x.joined(u, 8));
+            checks.due("joined, all places, lane 15", 90, () -> x.joined(u, 15));
+        }
+        checks.due("one island of all places", 1, x::islands);
+        checks.due("no way too many", 0, x::loops);
+        int end = x.far(0, 5);
+        x.tag(0, 5, 15, true);
+        checks.due("one way more at one end alone", 0, x::loops);
+        x.tag(end / 10, end % 10, 15, true);
+        checks.due("one way more", 1, x::loops);
+        checks.due("one island yet", 1, x::islands);
+        LaneTrunks less = allPlaces();
+        less.pull(0, 5);
+        checks.due("one way less", 2, less::islands);
+        checks.due("one way less", 0, less::loops);
+        checks.due("two islands", 90, () -> less.joined(0, 1) + less.joined(0, 15));
+    }
+
+    // Three pairs of switches, six cables each, thirteen lanes over each cable.
+    private void manyLoops() {
+        LaneTrunks x = new LaneTrunks();
+        for (int unit = 0; unit < 6; unit += 2) {
+            for (int port = 0; port < 6; port++) {
+                x.cable(unit, port, unit + 1, port, 20);
+                // Not by tagBoth: with its look at the far end, these would be over 512 calls.
+                for (int lane = 1; lane <= 12; lane++) {
+                    x.tag(unit, port, lane, true);
+                    x.tag(unit + 1, port, lane, true);
+                }
+                x.untag(unit, port, 15);
+                x.untag(unit + 1, port, 15);
+            }
+        }
+        checks.due("18 times 13 ways, 78 places, 39 islands", 195, x::loops);
+        checks.due("39 islands", 39, x::islands);
+        x.tree(true);
+        checks.due("one cable of each pair is on", 0, x::loops);
+        checks.due("39 islands yet", 39, x::islands);
+        checks.due("two places each", 2, () -> x.joined(5, 15));
+    }
+
+    private void bothEndsMustCarry() {
+        LaneTrunks x = new LaneTrunks();
+        x.cable(0, 0, 1, 0, 1);
+        x.tag(0, 0, 9, true);
+        checks.due("tagged here alone: hops", NONE, () -> x.hops(0, 9, 1, 9));
+        checks.due("tagged here alone: joined", 1, () -> x.joined(0, 9));
+        x.tag(1, 1, 9, true);
+        checks.due("tagged at another port there: hops", NONE, () -> x.hops(0, 9, 1, 9));
+        checks.due("tagged at another port there: islands", 2, x::islands);
+        x.untag(1, 0, 9);
+        checks.due("untagged there: hops", NONE, () -> x.hops(0, 9, 1, 9));
+        checks.due("untagged there: hops from there", NONE, () -> x.hops(1, 9, 0, 9));
+        checks.due("untagged there: islands", 2, x::islands);
+        x.untag(0, 0, 8);
+        checks.due("untagged at both ends: hops", 1, () -> x.hops(1, 9, 0, 8));
+        checks.due("untagged at both ends: islands", 2, x::islands);
+        checks.due("untagged at both ends: joined", 1, () -> x.joined(0, 9));
+        checks.due("no loops of all this", 0, x::loops);
+    }
+
+    private void eachPlaceIsUsedByItsPorts() {
+        for (int slot = 0; slot < 36; slot++) {
+            int unit = slot / 6;
+            int port = slot % 6;
+            LaneTrunks x = new LaneTrunks();
+            x.untag(unit, port, 15);
+            checks.due("untagged alone", 1, x::islands);
+            x.untag(unit, port, 1);
+            checks.due("untagged in its place", 1, x::islands);
+            x.tag(unit, port, 15, true);
+            checks.due("and tagged", 2, x::islands);
+            x.untag(unit, port, 0);
+            checks.due("tagged alone", 1, x::islands);
+            x.tag(unit, port, 15, false);
+            checks.due("nothing any more", 0, x::islands);
+            checks.due("no loops without cables", 0, x::loops);
+        }
     }
 }

@@ -1,25 +1,31 @@
+import java.util.function.Consumer;
+
 /** Promises 1 to 7: a new object, and the calls that set. */
 public final class SettingsTest {
     private static final int NONE = LaneTrunks.NONE;
-    private static final int[] BAD_UNITS = {-1, -2, 6, 36, Integer.MIN_VALUE, Integer.MAX_VALUE};
-    private static final int[] BAD_LANES = {-1, 16, 32, Integer.MIN_VALUE, Integer.MAX_VALUE};
 
     private final Checks checks = new Checks("SettingsTest");
 
     public static void main(String[] args) {
         SettingsTest test = new SettingsTest();
         test.aNewObjectIsEmpty();
+        test.objectsShareNothing();
+        test.allCallsAreAnswered();
         test.untagSets();
+        test.untagBesideAllTags();
         test.untagRefuses();
         test.tagSets();
+        test.tagTakesEachLane();
         test.tagRefuses();
         test.cableLays();
+        test.cablesAtAllPorts();
         test.cableRefuses();
         test.pullPulls();
+        test.pullAllCables();
         test.pullRefuses();
         test.treeSwitches();
         test.noteWrites();
-        test.noteRefuses();
+        test.noteAtAllPorts();
         test.checks.close();
     }
 
@@ -50,7 +56,6 @@ public final class SettingsTest {
             }
             for (int lane = 1; lane <= 15; lane++) {
                 int l = lane;
-                checks.due("new: tag", false, () -> x.tag(u, u, l, false));
                 checks.due("new: joined", 1, () -> x.joined(u, l));
             }
             checks.due("new: root", u, () -> x.root(u));
@@ -62,6 +67,48 @@ public final class SettingsTest {
         checks.due("new: loops", 0, x::loops);
         checks.due("new: the first cable", 1, () -> x.cable(0, 0, 1, 0, 1));
         checks.due("new: tree", false, () -> x.tree(true));
+        for (int port = 0; port < 36; port++) {
+            newPortHasNoTags(port / 6, port % 6);
+        }
+    }
+
+    private void newPortHasNoTags(int unit, int port) {
+        LaneTrunks x = new LaneTrunks();
+        for (int lane = 1; lane <= 15; lane++) {
+            int l = lane;
+            checks.due("new: tag", false, () -> x.tag(unit, port, l, false));
+        }
+    }
+
+    private void objectsShareNothing() {
+        LaneTrunks first = Checks.made(SettingsTest::someSettings);
+        LaneTrunks second = new LaneTrunks();
+        checks.due("a second object: far", NONE, () -> second.far(0, 0));
+        checks.due("a second object: islands", 0, second::islands);
+        checks.due("a second object: wrong", 0, second::wrong);
+        checks.due("a second object: cable", 1, () -> second.cable(0, 0, 5, 0, 9));
+        checks.due("a second object: tree", false, () -> second.tree(false));
+        checks.due("a second object: root", 0, () -> second.root(5));
+        checks.due("the first: far", 10, () -> first.far(0, 0));
+        checks.due("the first: root", 5, () -> first.root(5));
+        checks.due("the first: tree", true, () -> first.tree(true));
+        checks.due("the first: pull", 4, () -> first.pull(0, 0));
+    }
+
+    private void allCallsAreAnswered() {
+        LaneTrunks x = new LaneTrunks();
+        x.cable(0, 0, 1, 0, 1);
+        x.untag(0, 0, 1);
+        x.untag(1, 0, 2);
+        for (int call = 4; call <= 512; call++) {
+            switch (call % 4) {
+                case 0 -> checks.due("islands, call " + call, 1, x::islands);
+                case 1 -> checks.due("refused, call " + call, Checks.ILLEGAL_STATE,
+                        () -> x.cable(2, 0, 1, 0, 1));
+                case 2 -> checks.due("hops, call " + call, 1, () -> x.hops(0, 1, 1, 2));
+                default -> checks.due("joined, call " + call, 2, () -> x.joined(1, 2));
+            }
+        }
     }
 
     private void untagSets() {
@@ -83,18 +130,29 @@ public final class SettingsTest {
         checks.due("untag what is tagged elsewhere", 0, () -> x.untag(2, 3, 9));
     }
 
+    private void untagBesideAllTags() {
+        LaneTrunks x = new LaneTrunks();
+        for (int lane = 1; lane <= 15; lane++) {
+            x.tag(2, 3, lane, true);
+        }
+        for (int lane = 1; lane <= 15; lane++) {
+            int l = lane;
+            checks.due("untag what is tagged, " + l, Checks.ILLEGAL_STATE, () -> x.untag(2, 3, l));
+        }
+        checks.due("untag none beside all tags", 0, () -> x.untag(2, 3, 0));
+        checks.due("all lanes are tagged yet", true, () -> x.tag(2, 3, 8, false));
+        checks.due("untag the one that is tagged no more", 0, () -> x.untag(2, 3, 8));
+        checks.due("untag another one, tagged", Checks.ILLEGAL_STATE, () -> x.untag(2, 3, 9));
+        checks.due("the refused call left it", 8, () -> x.untag(2, 3, 0));
+    }
+
     private void untagRefuses() {
-        for (int bad : BAD_UNITS) {
-            refused("untag(" + bad + ", 0, 1)", x -> x.untag(bad, 0, 1));
-            refused("untag(0, " + bad + ", 1)", x -> x.untag(0, bad, 1));
-        }
-        for (int bad : BAD_LANES) {
-            refused("untag(0, 0, " + bad + ")", x -> x.untag(0, 0, bad));
-        }
-        checks.refused("untag(0, 0, 5), tagged", Checks.ILLEGAL_STATE,
-                SettingsTest::someSettings, x -> x.untag(0, 0, 5));
-        checks.refused("untag(5, 5, 15), tagged", Checks.ILLEGAL_STATE,
-                SettingsTest::someSettings, x -> x.untag(5, 5, 15));
+        refused("untag(0, 0, 5), tagged", x -> x.untag(0, 0, 5));
+        refused("untag(5, 5, 15), tagged", x -> x.untag(5, 5, 15));
+        checks.refused("untag(0, 0, 37), 5 is tagged", Checks.ILLEGAL_ARGUMENT,
+                SettingsTest::someSettings, x -> x.untag(0, 0, 37));
+        LaneTrunks x = Checks.made(SettingsTest::someSettings);
+        checks.due("untag what is tagged at the far end", 7, () -> x.untag(1, 0, 5));
     }
 
     private void tagSets() {
@@ -118,19 +176,29 @@ public final class SettingsTest {
         checks.due("tag what is untagged no more", false, () -> x.tag(1, 1, 4, true));
     }
 
+    private void tagTakesEachLane() {
+        for (int lane = 1; lane <= 15; lane++) {
+            int l = lane;
+            LaneTrunks x = new LaneTrunks();
+            checks.due("untag " + l, 0, () -> x.untag(5, 5, l));
+            checks.due("tag the untagged one " + l, Checks.ILLEGAL_STATE, () -> x.tag(5, 5, l, true));
+            checks.due("do not tag it " + l, false, () -> x.tag(5, 5, l, false));
+            checks.due("it stays untagged " + l, l, () -> x.untag(5, 5, l));
+            for (int other = 1; other <= 15; other++) {
+                int o = other;
+                Object want = o == l ? Checks.ILLEGAL_STATE : "false";
+                checks.due("tag " + o + " beside " + l, want, () -> x.tag(5, 5, o, true));
+            }
+        }
+    }
+
     private void tagRefuses() {
-        for (int bad : BAD_UNITS) {
-            refused("tag(" + bad + ", 0, 1, true)", x -> x.tag(bad, 0, 1, true));
-            refused("tag(0, " + bad + ", 1, false)", x -> x.tag(0, bad, 1, false));
-        }
-        for (int bad : BAD_LANES) {
-            refused("tag(0, 0, " + bad + ", true)", x -> x.tag(0, 0, bad, true));
-        }
-        refused("tag(0, 0, 0, true)", x -> x.tag(0, 0, 0, true));
-        refused("tag(3, 3, 0, true), nothing untagged", x -> x.tag(3, 3, 0, true));
-        refused("tag(3, 3, 0, false)", x -> x.tag(3, 3, 0, false));
-        checks.refused("tag(0, 0, 3, true), untagged", Checks.ILLEGAL_STATE,
-                SettingsTest::someSettings, x -> x.tag(0, 0, 3, true));
+        refused("tag(0, 0, 3, true), untagged", x -> x.tag(0, 0, 3, true));
+        refused("tag(1, 0, 7, true), untagged", x -> x.tag(1, 0, 7, true));
+        checks.refused("tag(3, 3, 0, true), nothing untagged", Checks.ILLEGAL_ARGUMENT,
+                SettingsTest::someSettings, x -> x.tag(3, 3, 0, true));
+        LaneTrunks x = Checks.made(SettingsTest::someSettings);
+        checks.due("tag what is untagged at the far end", false, () -> x.tag(1, 0, 3, true));
     }
 
     private void cableLays() {
@@ -145,36 +213,60 @@ public final class SettingsTest {
         checks.due("the first port is free again", 4, () -> x.cable(0, 1, 4, 4, 2));
         checks.due("the costs stay", 20, () -> x.pull(5, 5));
         checks.due("the costs stay", 1, () -> x.pull(0, 5));
-        int most = 18;
-        LaneTrunks full = new LaneTrunks();
-        for (int i = 0; i < most; i++) {
-            int port = i % 6;
-            int unit = i / 6 * 2;
-            checks.due("cable " + i, i + 1, () -> full.cable(unit, port, unit + 1, port, 20));
+        checks.due("the least cost at the far end", 1, () -> cabled(1).pull(5, 0));
+        checks.due("the greatest cost at the far end", 20, () -> cabled(20).pull(5, 0));
+    }
+
+    private static LaneTrunks cabled(int cost) {
+        LaneTrunks x = new LaneTrunks();
+        x.cable(0, 5, 5, 0, cost);
+        return x;
+    }
+
+    // Of the cables 0 to 17, six each join the switches 0 and 1, 2 and 3, 4 and 5.
+    private static int unitOf(int i) {
+        return i / 6 * 2;
+    }
+
+    private static void allCables(LaneTrunks x) {
+        for (int i = 0; i < 18; i++) {
+            x.cable(unitOf(i), i % 6, unitOf(i) + 1, i % 6, 1 + i);
         }
-        checks.due("a full port", Checks.ILLEGAL_STATE, () -> full.cable(0, 0, 2, 0, 1));
+    }
+
+    private void cablesAtAllPorts() {
+        LaneTrunks x = new LaneTrunks();
+        for (int i = 0; i < 18; i++) {
+            int port = i % 6;
+            int unit = unitOf(i);
+            checks.due("cable " + i, i + 1, () -> x.cable(unit, port, unit + 1, port, 20));
+        }
+        for (int unit = 0; unit < 6; unit++) {
+            for (int port = 0; port < 6; port++) {
+                int u = unit;
+                int p = port;
+                checks.due("no port is free: " + u + p, Checks.ILLEGAL_STATE,
+                        () -> x.cable(u, p, (u + 3) % 6, p, 1));
+            }
+        }
+        checks.due("pull one of all", 20, () -> x.pull(3, 5));
+        checks.due("one port is free", Checks.ILLEGAL_STATE, () -> x.cable(3, 5, 4, 5, 1));
+        checks.due("one port is free, from there", Checks.ILLEGAL_STATE,
+                () -> x.cable(4, 5, 3, 5, 1));
+        checks.due("all again", 18, () -> x.cable(3, 5, 2, 5, 1));
     }
 
     private void cableRefuses() {
-        for (int bad : BAD_UNITS) {
-            refused("cable(" + bad + ", 2, 3, 3, 1)", x -> x.cable(bad, 2, 3, 3, 1));
-            refused("cable(2, " + bad + ", 3, 3, 1)", x -> x.cable(2, bad, 3, 3, 1));
-            refused("cable(2, 2, " + bad + ", 3, 1)", x -> x.cable(2, 2, bad, 3, 1));
-            refused("cable(2, 2, 3, " + bad + ", 1)", x -> x.cable(2, 2, 3, bad, 1));
-        }
-        for (int bad : new int[] {0, -1, 21, Integer.MIN_VALUE, Integer.MAX_VALUE}) {
-            refused("cable(2, 2, 3, 3, " + bad + ")", x -> x.cable(2, 2, 3, 3, bad));
-            refused("cable(0, 0, 1, 0, " + bad + ")", x -> x.cable(0, 0, 1, 0, bad));
-        }
-        refused("cable(2, 2, 2, 3, 1)", x -> x.cable(2, 2, 2, 3, 1));
-        refused("cable(0, 0, 0, 0, 1), one taken", x -> x.cable(0, 0, 0, 0, 1));
-        refused("cable(0, 0, 0, 6, 1), one taken", x -> x.cable(0, 0, 0, 6, 1));
-        checks.refused("cable(0, 0, 3, 3, 1)", Checks.ILLEGAL_STATE,
-                SettingsTest::someSettings, x -> x.cable(0, 0, 3, 3, 1));
-        checks.refused("cable(3, 3, 0, 0, 1)", Checks.ILLEGAL_STATE,
-                SettingsTest::someSettings, x -> x.cable(3, 3, 0, 0, 1));
-        checks.refused("cable(0, 0, 1, 0, 4)", Checks.ILLEGAL_STATE,
-                SettingsTest::someSettings, x -> x.cable(0, 0, 1, 0, 4));
+        refused("cable(0, 0, 3, 3, 1)", x -> x.cable(0, 0, 3, 3, 1));
+        refused("cable(3, 3, 0, 0, 1)", x -> x.cable(3, 3, 0, 0, 1));
+        refused("cable(0, 0, 1, 0, 4)", x -> x.cable(0, 0, 1, 0, 4));
+        refused("cable(1, 0, 0, 0, 4)", x -> x.cable(1, 0, 0, 0, 4));
+        refused("cable(0, 0, 1, 1, 4)", x -> x.cable(0, 0, 1, 1, 4));
+        checks.refused("a cable that is off", Checks.ILLEGAL_STATE, x -> {
+            x.cable(0, 0, 1, 0, 1);
+            x.cable(0, 1, 1, 1, 2);
+            x.tree(true);
+        }, x -> x.cable(0, 1, 2, 0, 1));
     }
 
     private void pullPulls() {
@@ -192,13 +284,26 @@ public final class SettingsTest {
         checks.due("root after pull", 3, () -> x.root(3));
     }
 
-    private void pullRefuses() {
-        for (int bad : BAD_UNITS) {
-            refused("pull(" + bad + ", 0)", x -> x.pull(bad, 0));
-            refused("pull(0, " + bad + ")", x -> x.pull(0, bad));
+    private void pullAllCables() {
+        LaneTrunks x = Checks.made(SettingsTest::allCables);
+        for (int i = 0; i < 18; i++) {
+            int port = i % 6;
+            int unit = unitOf(i) + i % 2;
+            checks.due("pull cable " + i, 1 + i, () -> x.pull(unit, port));
+            checks.due("pull it again", Checks.NO_SUCH_ELEMENT, () -> x.pull(unit, port));
         }
+        checks.due("no cables are left", 1, () -> x.cable(0, 0, 1, 0, 1));
+    }
+
+    private void pullRefuses() {
         checks.refused("pull(0, 1)", Checks.NO_SUCH_ELEMENT,
                 SettingsTest::someSettings, x -> x.pull(0, 1));
+        checks.refused("pull(5, 5), nothing laid", Checks.NO_SUCH_ELEMENT,
+                x -> { }, x -> x.pull(5, 5));
+        checks.refused("pull(0, 0), pulled at the far end", Checks.NO_SUCH_ELEMENT, x -> {
+            SettingsTest.someSettings(x);
+            x.pull(1, 0);
+        }, x -> x.pull(0, 0));
     }
 
     private void treeSwitches() {
@@ -222,20 +327,25 @@ public final class SettingsTest {
         checks.due("note after nothing", false, () -> x.note(0, 0, 1, 1));
     }
 
-    private void noteRefuses() {
-        for (int bad : BAD_UNITS) {
-            refused("note(" + bad + ", 0, 1, 1)", x -> x.note(bad, 0, 1, 1));
-            refused("note(0, " + bad + ", 1, 1)", x -> x.note(0, bad, 1, 1));
-            refused("note(" + bad + ", 0, NONE, 1)", x -> x.note(bad, 0, NONE, 1));
-            refused("note(0, " + bad + ", NONE, 1)", x -> x.note(0, bad, NONE, 1));
-            refused("note(0, 0, 1, " + bad + ")", x -> x.note(0, 0, 1, bad));
-            if (bad != NONE) {
-                refused("note(0, 0, " + bad + ", 1)", x -> x.note(0, 0, bad, 1));
-            }
+    private void noteAtAllPorts() {
+        LaneTrunks x = new LaneTrunks();
+        noteEach(x, 5, false);
+        checks.due("all ports are noted", 36, x::wrong);
+        noteEach(x, NONE, true);
+        checks.due("nothing is noted any more", 0, x::wrong);
+        noteEach(x, 0, false);
+        checks.due("all ports are noted again", 36, x::wrong);
+    }
+
+    private void noteEach(LaneTrunks x, int otherUnit, boolean want) {
+        for (int slot = 0; slot < 36; slot++) {
+            int unit = slot / 6;
+            int port = slot % 6;
+            checks.due("note at " + unit + port, want, () -> x.note(unit, port, otherUnit, 0));
         }
     }
 
-    private void refused(String what, java.util.function.Consumer<LaneTrunks> call) {
-        checks.refused(what, Checks.ILLEGAL_ARGUMENT, SettingsTest::someSettings, call);
+    private void refused(String what, Consumer<LaneTrunks> call) {
+        checks.refused(what, Checks.ILLEGAL_STATE, SettingsTest::someSettings, call);
     }
 }

@@ -10,10 +10,25 @@ final class State {
 
     static String after(Consumer<LaneTrunks> settings) {
         StringBuilder text = new StringBuilder();
+        readTree(Checks.made(settings), text);
         readPorts(Checks.made(settings), text);
         readTags(Checks.made(settings), text, 0);
         readTags(Checks.made(settings), text, 3);
         return text.toString();
+    }
+
+    private static void readTree(LaneTrunks x, StringBuilder text) {
+        text.append("islands ").append(x.islands()).append(" loops ").append(x.loops());
+        for (int unit = 0; unit < 6; unit++) {
+            text.append("\n").append(unit).append(" root ").append(x.root(unit));
+            text.append(" cost ").append(x.costOf(unit)).append(" up ").append(x.wayUp(unit));
+            for (int port = 0; port < 6; port++) {
+                int u = unit;
+                int p = port;
+                text.append(" ").append(Checks.answerOf(() -> x.isOn(u, p)));
+            }
+        }
+        text.append("\n");
     }
 
     private static void readPorts(LaneTrunks x, StringBuilder text) {

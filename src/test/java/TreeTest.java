@@ -13,7 +13,11 @@ public final class TreeTest {
         test.questionsLeaveTheTree();
         test.portsOfOtherSwitches();
         test.wholeChains();
-        test.badArgumentsAreRefused();
+        test.noCablesNoWaysUp();
+        test.joinedToHigherOnesAlone();
+        test.treeOnOrOff();
+        test.tiesAtAllPorts();
+        test.tiesOfAllSwitches();
         test.checks.close();
     }
 
@@ -123,14 +127,80 @@ public final class TreeTest {
         }
     }
 
-    private void badArgumentsAreRefused() {
-        for (int bad : new int[] {-1, 6, 36, Integer.MIN_VALUE, Integer.MAX_VALUE}) {
-            checks.refused("root(" + bad + ")", Checks.ILLEGAL_ARGUMENT,
-                    SettingsTest::someSettings, x -> x.root(bad));
-            checks.refused("costOf(" + bad + ")", Checks.ILLEGAL_ARGUMENT,
-                    SettingsTest::someSettings, x -> x.costOf(bad));
-            checks.refused("wayUp(" + bad + ")", Checks.ILLEGAL_ARGUMENT,
-                    SettingsTest::someSettings, x -> x.wayUp(bad));
+    private void noCablesNoWaysUp() {
+        LaneTrunks x = new LaneTrunks();
+        for (boolean isOn : new boolean[] {true, false}) {
+            x.tree(isOn);
+            for (int unit = 0; unit < 6; unit++) {
+                tree(x, unit, unit, 0, NONE);
+            }
         }
+    }
+
+    private void joinedToHigherOnesAlone() {
+        LaneTrunks x = new LaneTrunks();
+        for (int port = 0; port < 6; port++) {
+            x.cable(4, port, 5, port, 1 + port);
+        }
+        tree(x, 4, 4, 0, NONE);
+        tree(x, 5, 4, 1, 0);
+        x.cable(1, 5, 2, 5, 20);
+        x.cable(1, 0, 3, 0, 20);
+        tree(x, 1, 1, 0, NONE);
+        tree(x, 2, 1, 20, 5);
+        tree(x, 3, 1, 20, 0);
+        tree(x, 0, 0, 0, NONE);
+        x.cable(0, 3, 3, 5, 1);
+        tree(x, 1, 0, 21, 0);
+        tree(x, 2, 0, 41, 5);
+        tree(x, 3, 0, 1, 5);
+    }
+
+    private void treeOnOrOff() {
+        LaneTrunks x = new LaneTrunks();
+        x.cable(0, 0, 1, 1, 1);
+        x.cable(1, 2, 2, 1, 1);
+        x.cable(2, 2, 0, 1, 3);
+        for (boolean isOn : new boolean[] {true, false, true}) {
+            x.tree(isOn);
+            tree(x, 0, 0, 0, NONE);
+            tree(x, 1, 0, 1, 1);
+            tree(x, 2, 0, 2, 1);
+        }
+        checks.due("a cable that is off", false, () -> x.isOn(2, 2));
+        x.pull(1, 2);
+        tree(x, 2, 0, 3, 2);
+    }
+
+    // The ports of the root are in the other order, so that its lowest one would tell another.
+    private void tiesAtAllPorts() {
+        LaneTrunks x = new LaneTrunks();
+        for (int port = 5; port >= 0; port--) {
+            int p = port;
+            x.cable(5, p, 2, 5 - p, 20);
+            tree(x, 5, 2, 20, p);
+        }
+        for (int port = 0; port < 5; port++) {
+            x.pull(5, port);
+            tree(x, 5, 2, 20, port + 1);
+        }
+        x.pull(5, 5);
+        tree(x, 5, 5, 0, NONE);
+    }
+
+    // The lower switch is at the higher port of switch 5, so that the port would tell another.
+    private void tiesOfAllSwitches() {
+        LaneTrunks x = new LaneTrunks();
+        for (int unit = 1; unit < 5; unit++) {
+            x.cable(0, unit, unit, 0, 10);
+        }
+        for (int unit = 4; unit > 0; unit--) {
+            x.cable(unit, 1, 5, 5 - unit, 10);
+            tree(x, 5, 0, 20, 5 - unit);
+        }
+        x.cable(0, 5, 5, 5, 20);
+        tree(x, 5, 0, 20, 5);
+        x.pull(0, 1);
+        tree(x, 1, 0, 30, 1);
     }
 }
