@@ -437,6 +437,7 @@ public final class FramesTest {
         x.tag(0, 0, 9, true);
         checks.due("tagged here alone: hops", NONE, () -> x.hops(0, 9, 1, 9));
         checks.due("tagged here alone: joined", 1, () -> x.joined(0, 9));
+        checks.due("tagged here alone: no way, no loop", 0, x::loops);
         x.tag(1, 1, 9, true);
         checks.due("tagged at another port there: hops", NONE, () -> x.hops(0, 9, 1, 9));
         checks.due("tagged at another port there: islands", 2, x::islands);
@@ -444,6 +445,7 @@ public final class FramesTest {
         checks.due("untagged there: hops", NONE, () -> x.hops(0, 9, 1, 9));
         checks.due("untagged there: hops from there", NONE, () -> x.hops(1, 9, 0, 9));
         checks.due("untagged there: islands", 2, x::islands);
+        checks.due("untagged there alone: no way, no loop", 0, x::loops);
         x.untag(0, 0, 8);
         checks.due("untagged at both ends: hops", 1, () -> x.hops(1, 9, 0, 8));
         checks.due("untagged at both ends: islands", 2, x::islands);
